@@ -446,6 +446,11 @@ public final class PromiseTests {
         dueMean(kept, 0, NONE, NONE);
         due(17, "mean(0, 2) without counted ones", kept.mean(0, 2), BAD);
         dueMean(greatest(), 0, 80000, 1);
+        FutureSets below = withFutures(1, 0, 2, 2);
+        below.name(-3, -2, -2);
+        below.term(-1, -1, 0, 1);
+        below.set(0, 0, -3);
+        dueMean(below, 0, -5, 2);
     }
 
     /** All 40 terms of the cost are as great as can be, and so are all odds. */
@@ -537,6 +542,12 @@ public final class PromiseTests {
         kept.future(1, true);
         dueWaiting(kept, NONE, NONE);
         dueWaiting(greatest(), 0, 1);
+        FutureSets again = greatest();
+        again.waiting(0);
+        again.begin(1, 0);
+        again.future(1, true);
+        again.future(1, false);
+        dueWaiting(again, 0, 1);
     }
 
     private static void dueChance(FutureSets x, int plan, int above, int below) {
@@ -560,6 +571,13 @@ public final class PromiseTests {
         due(22, "chance(0, 2) without counted ones", kept.chance(0, 2), BAD);
         kept.future(4, false);
         dueChance(kept, 1, 1, 1);
+        FutureSets longWay = withFutures(1, 0, 89, 55, 89, 55);
+        longWay.name(0, 0, 1);
+        longWay.row();
+        longWay.term(0, -1, 0, 1);
+        longWay.set(1, 0, 1);
+        longWay.set(3, 0, 1);
+        dueChance(longWay, 0, 89, 144);
     }
 
     /** All that can be asked of a small object, as one text. */
