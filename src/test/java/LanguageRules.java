@@ -12,8 +12,8 @@ import java.util.regex.Pattern;
 /** The face of the class, what the language's rules ban, and the dearest calls on the greatest problem. */
 public final class LanguageRules {
     private static final Path PROGRAM = Path.of("src/main/java/FutureSets.java");
-    private static final String BANNED = "\\b(throw|throws|try|catch|synchronized|assert|import|package|protected"
-        + "|double|float|hashCode|toString|System|Object|Exact)\\b|->|::";
+    private static final String BANNED = "\\b(throw|throws|try|catch|synchronized|assert|package|protected|hashCode"
+        + "|Thread|Random|Object|\\w+Exact)\\b|::|\\bSystem\\b(?!\\.arraycopy\\b)|\\bimport\\b(?! java\\.util\\.)";
     private static final Set<String> FACE = Set.of("begin", "name", "budget", "row", "term", "future", "set", "told",
         "comes", "worst", "worstName", "breaks", "safest", "answer", "twoStep", "mean", "best", "regret", "calmest",
         "waiting", "chance");
@@ -45,6 +45,7 @@ public final class LanguageRules {
             if (!open && FACE.contains(each.getName())) say("rule 1: private with a public one's name: " + each);
             if (open && each.getReturnType() != int.class) say("rule 1: not an int: " + each);
             if (each.getParameterCount() > 7) say("rule 11: over seven parameters: " + each);
+            if (each.getName().startsWith("lambda$")) say("rule 2: a lambda: " + each);
         }
         if (!seen.equals(new TreeSet<>(FACE))) say("rule 1: the face is " + seen);
         for (Field each : FutureSets.class.getDeclaredFields()) {
@@ -60,7 +61,10 @@ public final class LanguageRules {
             if (!Modifier.isStatic(each.getModifiers())) say("rule 2: not static: " + each);
             if (Modifier.isPublic(each.getModifiers())) say("rule 1: public: " + each);
             for (Method method : each.getDeclaredMethods()) {
-                if (FACE.contains(method.getName())) say("rule 1: bears the name of a public one: " + method);
+                boolean closed = Modifier.isPrivate(method.getModifiers());
+                if (closed && FACE.contains(method.getName())) say("rule 1: private with a public one's name: " + method);
+                if (method.getParameterCount() > 7) say("rule 11: over seven parameters: " + method);
+                if (method.getName().startsWith("lambda$")) say("rule 2: a lambda: " + method);
             }
         }
     }
