@@ -1,10 +1,13 @@
 import java.io.IOException;
+import java.lang.reflect.Constructor;
 import java.lang.reflect.Field;
 import java.lang.reflect.Method;
 import java.lang.reflect.Modifier;
 import java.nio.file.Files;
 import java.nio.file.Path;
+import java.util.Arrays;
 import java.util.Set;
+import java.util.StringJoiner;
 import java.util.TreeSet;
 import java.util.regex.Matcher;
 import java.util.regex.Pattern;
@@ -14,9 +17,10 @@ public final class LanguageRules {
     private static final Path PROGRAM = Path.of("src/main/java/FutureSets.java");
     private static final String BANNED = "\\b(throw|throws|try|catch|synchronized|assert|package|protected|hashCode"
         + "|Thread|Random|Object|\\w+Exact)\\b|::|\\bSystem\\b(?!\\.arraycopy\\b)|\\bimport\\b(?! java\\.util\\.)";
-    private static final Set<String> FACE = Set.of("begin", "name", "budget", "row", "term", "future", "set", "told",
-        "comes", "worst", "worstName", "breaks", "safest", "answer", "twoStep", "mean", "best", "regret", "calmest",
-        "waiting", "chance");
+    private static final Set<String> CALLS = Set.of("begin(int, int)", "name(int, int, int)", "budget(int)", "row()",
+        "term(int, int, int, int)", "future(int, boolean)", "set(int, int, int)", "told(int)", "comes(int, int, int)",
+        "worst(int, int)", "worstName(int, int, int)", "breaks(int)", "safest()", "answer(int, int)", "twoStep()",
+        "mean(int, int)", "best(int)", "regret(int)", "calmest()", "waiting(int)", "chance(int, int)");
     private static int wrong = 0;
 
     public static void main(String[] args) throws IOException {
@@ -36,18 +40,21 @@ public final class LanguageRules {
     private static void face() {
         int kind = FutureSets.class.getModifiers();
         if (!Modifier.isPublic(kind) || !Modifier.isFinal(kind)) say("rule 1: the class is not public and final");
-        if (FutureSets.class.getConstructors().length != 1) say("rule 1: not one public constructor");
+        Constructor<?>[] constructors = FutureSets.class.getDeclaredConstructors();
+        boolean asTold = constructors.length == 1 && Modifier.isPublic(constructors[0].getModifiers())
+            && constructors[0].getParameterCount() == 0;
+        if (!asTold) say("rule 1: the constructors are " + Arrays.toString(constructors));
         Set<String> seen = new TreeSet<>();
         for (Method each : FutureSets.class.getDeclaredMethods()) {
+            methodRules(each);
             boolean open = Modifier.isPublic(each.getModifiers());
-            if (open && !seen.add(each.getName())) say("rule 1: twice in the face: " + each.getName());
             if (!open && !Modifier.isPrivate(each.getModifiers())) say("rule 1: neither public nor private: " + each);
-            if (!open && FACE.contains(each.getName())) say("rule 1: private with a public one's name: " + each);
-            if (open && each.getReturnType() != int.class) say("rule 1: not an int: " + each);
-            if (each.getParameterCount() > 7) say("rule 11: over seven parameters: " + each);
-            if (each.getName().startsWith("lambda$")) say("rule 2: a lambda: " + each);
+            if (!open) continue;
+            seen.add(callOf(each));
+            boolean ofAnObject = !Modifier.isStatic(each.getModifiers());
+            if (each.getReturnType() != int.class || !ofAnObject) say("rule 1: not an int of an object: " + each);
         }
-        if (!seen.equals(new TreeSet<>(FACE))) say("rule 1: the face is " + seen);
+        if (!seen.equals(new TreeSet<>(CALLS))) say("rule 1: the face is " + seen);
         for (Field each : FutureSets.class.getDeclaredFields()) {
             boolean open = Modifier.isPublic(each.getModifiers());
             if (open != Set.of("BAD", "FULL", "NONE").contains(each.getName())) say("rule 1: " + each);
@@ -60,13 +67,28 @@ public final class LanguageRules {
         for (Class<?> each : FutureSets.class.getDeclaredClasses()) {
             if (!Modifier.isStatic(each.getModifiers())) say("rule 2: not static: " + each);
             if (Modifier.isPublic(each.getModifiers())) say("rule 1: public: " + each);
-            for (Method method : each.getDeclaredMethods()) {
-                boolean closed = Modifier.isPrivate(method.getModifiers());
-                if (closed && FACE.contains(method.getName())) say("rule 1: private with a public one's name: " + method);
-                if (method.getParameterCount() > 7) say("rule 11: over seven parameters: " + method);
-                if (method.getName().startsWith("lambda$")) say("rule 2: a lambda: " + method);
-            }
+            for (Method method : each.getDeclaredMethods()) methodRules(method);
         }
+    }
+
+    private static String callOf(Method method) {
+        StringJoiner types = new StringJoiner(", ", method.getName() + "(", ")");
+        for (Class<?> each : method.getParameterTypes()) types.add(each.getName());
+        return types.toString();
+    }
+
+    private static boolean isNamedAsACall(Method method) {
+        for (String each : CALLS) {
+            if (each.startsWith(method.getName() + "(")) return true;
+        }
+        return false;
+    }
+
+    private static void methodRules(Method method) {
+        boolean closed = Modifier.isPrivate(method.getModifiers());
+        if (closed && isNamedAsACall(method)) say("rule 1: private with a public one's name: " + method);
+        if (method.getParameterCount() > 7) say("rule 11: over seven parameters: " + method);
+        if (method.getName().startsWith("lambda$")) say("rule 2: a lambda: " + method);
     }
 
     private static void bannedWords() throws IOException {

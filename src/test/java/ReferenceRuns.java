@@ -16,20 +16,42 @@ public final class ReferenceRuns {
         if (wrong != 0) System.exit(1);
     }
 
+    /** What a run may have; the reference goes through all futures, so no kind is great in all. */
+    private enum Kind {
+        SMALL(3, 2, 4, 4, 2), WIDE(2, 1, 12, 2, 2), DEEP(2, 1, 12, 12, 1), TALL(6, 4, 3, 3, 2);
+
+        final int firsts, seconds, names, budget;
+        /** How far a name's least is below its usual number at most; its greatest above it likewise. */
+        final int way;
+
+        Kind(int firsts, int seconds, int names, int budget, int way) {
+            this.firsts = firsts;
+            this.seconds = seconds;
+            this.names = names;
+            this.budget = budget;
+            this.way = way;
+        }
+
+        static Kind of(int seed) {
+            if (seed % 40 == 1) return DEEP;
+            if (seed % 20 == 3) return TALL;
+            return seed % 3 == 0 ? WIDE : SMALL;
+        }
+    }
+
     /** One run: a program and a reference that get the same calls. */
     private static final class Run {
         final int seed;
         final Random random;
         final FutureSets program = new FutureSets();
         final Reference reference = new Reference();
-        /** Wide runs have up to all 12 names and few choices; the others few names and more choices. */
-        final boolean wide;
+        final Kind kind;
         final int reach;
 
         Run(int seed) {
             this.seed = seed;
             random = new Random(seed);
-            wide = seed % 3 == 0;
+            kind = Kind.of(seed);
             reach = seed % 2 == 0 ? 2 : 4;
         }
 
@@ -53,8 +75,8 @@ public final class ReferenceRuns {
         }
 
         void begin() {
-            int f = number(1, wide ? 2 : 3);
-            int s = number(0, wide ? 1 : 2);
+            int f = number(1, kind.firsts);
+            int s = number(0, kind.seconds);
             same("begin(" + f + ", " + s + ")", program.begin(f, s), reference.begin(f, s));
         }
 
@@ -63,8 +85,8 @@ public final class ReferenceRuns {
             if (way < 1) begin();
             else if (way < 20) addName();
             else if (way < 26) {
-                int n = number(0, wide ? 2 : 4);
-                if (wide && n > 2 && n <= 12) n = 2;
+                int n = number(0, kind.budget);
+                if (n > kind.budget && n <= 12) n = kind.budget;
                 same("budget(" + n + ")", program.budget(n), reference.budget(n));
             } else if (way < 32) {
                 same("row()", program.row(), reference.row());
@@ -76,17 +98,20 @@ public final class ReferenceRuns {
             } else {
                 int i = number(0, reference.odds.size() - 1);
                 int name = number(0, reference.least.size() - 1);
-                int v = number(-reach, reach);
+                boolean known = name >= 0 && name < reference.least.size();
+                int v = known ? number(reference.least.get(name), reference.greatest.get(name)) : 0;
                 same("set(" + i + ", " + name + ", " + v + ")", program.set(i, name, v), reference.set(i, name, v));
             }
         }
 
         void addName() {
             int usual = random.nextInt(2 * reach + 1) - reach;
-            int least = usual - random.nextInt(3) + (random.nextInt(30) == 0 ? 3 : 0);
-            int greatest = usual + random.nextInt(3) - (random.nextInt(30) == 0 ? 3 : 0);
-            // The reference goes through all futures, so runs that are not wide stay small.
-            if (!wide && reference.least.size() >= 4) return;
+            int least = usual - random.nextInt(kind.way + 1) + (random.nextInt(30) == 0 ? 3 : 0);
+            int greatest = usual + random.nextInt(kind.way + 1) - (random.nextInt(30) == 0 ? 3 : 0);
+            // Two numbers for each name: with any budget the set is still small enough to go through.
+            if (kind == Kind.DEEP && least < usual) greatest = Math.min(greatest, usual);
+            // All 12 names, and the refusal behind them, only in the kinds that may have so many.
+            if (kind.names < 12 && reference.least.size() >= kind.names) return;
             same("name(" + least + ", " + usual + ", " + greatest + ")",
                 program.name(least, usual, greatest), reference.name(least, usual, greatest));
         }
@@ -346,8 +371,8 @@ public final class ReferenceRuns {
         int answer(int first, int i) {
             if (!in(first, 0, (1 << f) - 1) || !isFuture(i)) return BAD;
             int found = NONE;
-            for (int plan = 0; isPlan(plan); plan++) {
-                if (plan % (1 << f) != first || !holdsIn(plan, i)) continue;
+            for (int plan = first; isPlan(plan); plan += 1 << f) {
+                if (!holdsIn(plan, i)) continue;
                 if (found == NONE || comes(plan, -1, i) < comes(found, -1, i)) found = plan;
             }
             return found;
@@ -405,20 +430,35 @@ public final class ReferenceRuns {
             return found;
         }
 
+        List<Integer> bests() {
+            List<Integer> all = new ArrayList<>();
+            for (int i = 0; i < odds.size(); i++) all.add(best(i));
+            return all;
+        }
+
         int regret(int first) {
             if (!in(first, 0, (1 << f) - 1)) return BAD;
-            if (!isAnswered(first)) return NONE;
+            return isAnswered(first) ? mostAbove(first, bests()) : NONE;
+        }
+
+        int mostAbove(int first, List<Integer> bests) {
             int most = Integer.MIN_VALUE;
             for (int i = 0; i < odds.size(); i++) {
-                if (!kept.get(i)) most = Math.max(most, comes(answer(first, i), -1, i) - best(i));
+                if (!kept.get(i)) most = Math.max(most, comes(answer(first, i), -1, i) - bests.get(i));
             }
             return most;
         }
 
         int calmest() {
-            int found = NONE;
+            List<Integer> bests = bests();
+            int found = NONE, least = 0;
             for (int first = 0; first < 1 << f; first++) {
-                if (isAnswered(first) && (found == NONE || regret(first) < regret(found))) found = first;
+                if (!isAnswered(first)) continue;
+                int here = mostAbove(first, bests);
+                if (found == NONE || here < least) {
+                    found = first;
+                    least = here;
+                }
             }
             return found;
         }
